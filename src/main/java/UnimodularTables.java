@@ -1223,8 +1223,12 @@ public final class UnimodularTables {
                 return true;
             }
             for (int node = 0; node <= arc; node++) {
-                if (growAt(arc, node)) {
-                    return true;
+                int ends = arcsAt(node, arc);
+                for (int set = 0; set < SETS && set <= ends; set++) {
+                    if (isNew(set, ends)
+                            && (growBy(arc, node, set, 0) || (ends != 0 && growBy(arc, node, set, 1)))) {
+                        return true;
+                    }
                 }
             }
             return false;
@@ -1232,21 +1236,11 @@ public final class UnimodularTables {
 
         /**
          * Of a set and the node's other arcs the greater one is left out: it makes the same trees, but for
-         * the numbers of two nodes and which way is which, and the lesser one has been tried before.
+         * the numbers of two nodes and which way is which, and the lesser one has been tried before. So is
+         * the other way, where no arc ends at the node.
          */
-        private boolean growAt(int arc, int node) {
-            int ends = arcsAt(node, arc);
-            int ways = ends == 0 ? 1 : 2;
-            for (int set = 0; set < SETS && set <= ends; set++) {
-                if ((set & ~ends) == 0 && set <= (ends ^ set)) {
-                    for (int way = 0; way < ways; way++) {
-                        if (growBy(arc, node, set, way)) {
-                            return true;
-                        }
-                    }
-                }
-            }
-            return false;
+        private static boolean isNew(int set, int ends) {
+            return (set & ~ends) == 0 && set <= (ends ^ set);
         }
 
         private boolean growBy(int arc, int node, int set, int way) {
@@ -1371,6 +1365,7 @@ public final class UnimodularTables {
             signForest(table);
             for (int i = 0; i < CELLS && findNext(table); i++) {
                 measureFrom(nextColumn);
+                // A way has an odd number of signs, so its sum is 1 or 3 beyond a number of times 4.
                 signs.put(nextRow, nextColumn, (sumOfWay(nextRow) & 3) == 3 ? 1 : -1);
             }
         }

@@ -9,6 +9,7 @@ public final class GraphsTest {
         packs();
         covers();
         cycles();
+        oneBehindTheOther();
         check.finish();
     }
 
@@ -77,6 +78,21 @@ public final class GraphsTest {
         }
         check.due("pack of no table", new UnimodularTables().pack(0), -1);
         check.due("cover of no table", new UnimodularTables().pack(1), -1);
+    }
+
+    private static void oneBehindTheOther() {
+        UnimodularTables x = Check.of("++++/++++");
+        check.due("cycle", x.cycle(), 4);
+        check.due("blocks", x.block(-1, 0), 1);
+        Check.table(x, "+0/0+/00");
+        check.due("cycle of the next table", x.cycle(), -1);
+        check.due("blocks of the next table", x.block(-1, 0), 3);
+        check.due("pack of the next table", x.pack(0), 3);
+        check.due("cover of the next table", x.pack(1), 3);
+        x.deal(7, 1, 0);
+        check.due("cover behind an act", x.pack(1), 1);
+        x.undo();
+        check.due("cover behind undo", x.pack(1), 3);
     }
 
     private static void cycleOf(String text, int want) {

@@ -1,3 +1,5 @@
+import java.util.Random;
+
 /** Promises 22 to 25: signed, regular, scaled, special. */
 public final class SignsTest {
     private static final int HIDDEN = -1000000;
@@ -9,6 +11,7 @@ public final class SignsTest {
 
     public static void main(String[] args) {
         signs();
+        asToldPlainly();
         regulars();
         scaled();
         specials();
@@ -39,6 +42,10 @@ public final class SignsTest {
         signsOf("+++/+++/+++", "+++/+++/+++");
         // Row 2, column 2 is told last, by the short way that row 2, column 3 has opened: 3 and 1 are 4.
         signsOf("++0+/+0++/0+++", "++0+/+0++/0+++");
+        // Two are as far: the first is told first. Then two ways are as short: by row 0, not by row 1.
+        signsOf("+00+00/+0000+/00++0+/++0000/+0+0+0", "+00+00/+0000+/00++0-/++0000/+0-0+0");
+        signsOf("+0000+/00++0+/+00++0/+++000/+00+00", "+0000+/00++0+/+00-+0/++-000/+00-00");
+        signsOf("000++/00+0+/++0+0/++00+/+0++0", "000++/00+0+/++0+0/++00-/+0++0");
         UnimodularTables x = Check.of("++/0+");
         int[][] wrong = {{-1, 0}, {0, -1}, {2, 0}, {0, 2}, {LEAST, 0}, {0, GREATEST}};
         for (int[] at : wrong) {
@@ -48,6 +55,27 @@ public final class SignsTest {
         check.due("signed", x.signed(1, 0), 0);
         x.change(1, 0, -1);
         check.due("signed behind a change", x.signed(1, 0), 1);
+    }
+
+    /** Compares with the plain model, on one object, so that nothing may be left of the table ahead. */
+    private static void asToldPlainly() {
+        Random random = new Random(11);
+        UnimodularTables x = new UnimodularTables();
+        for (int i = 0; i < 3000; i++) {
+            int rows = 1 + random.nextInt(6);
+            int columns = 1 + random.nextInt(6);
+            int dense = 2 + random.nextInt(6);
+            StringBuilder text = new StringBuilder();
+            for (int j = 0; j < rows * columns; j++) {
+                text.append(j > 0 && j % columns == 0 ? "/" : "");
+                text.append(random.nextInt(8) < dense ? "+-".charAt(random.nextInt(2)) : '0');
+            }
+            Check.table(x, text.toString());
+            int[][] signs = PlainModel.signed(PlainModel.parse(text.toString()));
+            for (int j = 0; j < rows * columns; j++) {
+                check.due("signed of " + text, x.signed(j / columns, j % columns), signs[j / columns][j % columns]);
+            }
+        }
     }
 
     private static void regulars() {

@@ -57,6 +57,17 @@ public final class TapeTest {
         check.due("feed to 240", x.feed(0, 0, 0, 0, 0x2B), 240);
         check.due("feed of nothing at 240", x.feed(0, 0, 0, 0, 0), 240);
         check.due("feed at 240", x.feed(0, 0, 1, 0, 0), -1);
+        for (int i = 0; i < 5; i++) {
+            int[] w = new int[5];
+            w[i] = 0x2B2B2B2B;
+            w[(i + 1) % 5] = 0x2B;
+            x.end(236);
+            check.due("five bytes more than 236", x.feed(w[0], w[1], w[2], w[3], w[4]), -1);
+            w[(i + 1) % 5] = 0;
+            check.due("four bytes more than 236", x.feed(w[0], w[1], w[2], w[3], w[4]), 240);
+        }
+        x.end(236);
+        check.due("blanks, and + at the end", x.feed(0x20000020, 0, 0x20, 0, 0x2B00), 240);
         check.due("text of 239 blanks and +", x.text(0), 1);
         check.showsAs("text", x, "+");
         check.due("the tape is empty then", x.count(4), 0);
@@ -201,6 +212,9 @@ public final class TapeTest {
         check.due("acts can still be undone", x.undo(), 0);
         check.showsAs("undo", x, "+-/0+");
         check.due("an empty tape is no table", new UnimodularTables().text(0), -1);
+        check.due("total of one table", x.total(), 1);
+        Check.table(x, "++/+-");
+        check.due("total of the next", x.total(), 0);
     }
 
     private static void textOfScript() {
