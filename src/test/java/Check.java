@@ -1,20 +1,78 @@
+import java.lang.reflect.InvocationTargetException;
+import java.lang.reflect.Method;
 import java.util.NoSuchElementException;
+import java.util.function.Supplier;
+import java.util.function.ToLongFunction;
 
 /** What the tests share: counting wrong answers, and bringing texts to a tape. */
 final class Check {
     /** What entry answers here, where it throws. */
     static final long THROWN = Long.MIN_VALUE;
 
+    private static final int NO_STATUS = -1;
+
     private int wrong;
     private int asked;
+    private String test = "";
+
+    /** Runs every test of a class: its static methods that are named after a promise or a part of the terms. */
+    void runAll(Class<?> tests) {
+        for (Method method : tests.getDeclaredMethods()) {
+            if (isTest(method)) {
+                test = method.getName() + ": ";
+                run(method);
+            }
+        }
+        finish();
+    }
+
+    static boolean isTest(Method method) {
+        return method.getName().matches("(promise[0-9]{2}|terms[0-9])[A-Z].*") && method.getParameterCount() == 0;
+    }
+
+    private void run(Method method) {
+        int before = asked;
+        try {
+            method.invoke(null);
+        } catch (InvocationTargetException e) {
+            due("it threw " + e.getCause() + ", which", 1, 0);
+        } catch (IllegalAccessException e) {
+            due("it can't be run, which", 1, 0);
+        }
+        due("it asks something, which", asked > before, true);
+    }
 
     void due(String call, long got, long want) {
         asked++;
         if (got != want) {
             wrong++;
             if (wrong <= 40) {
-                System.out.println(call + " answered " + got + ", due is " + want);
+                System.out.println(test + call + " answered " + got + ", due is " + want);
             }
+        }
+    }
+
+    /** The call answers so and leaves all that can be seen of the object as it was, STATUS too. */
+    void refused(String call, Supplier<UnimodularTables> made, ToLongFunction<UnimodularTables> done, long want) {
+        refused(call, made, done, want, NO_STATUS);
+    }
+
+    /** The same, but for one more in that number of STATUS. */
+    void refused(String call, Supplier<UnimodularTables> made, ToLongFunction<UnimodularTables> done, long want, int status) {
+        UnimodularTables x = made.get();
+        UnimodularTables untouched = made.get();
+        due(call, done.applyAsLong(x), want);
+        for (int what = 0; what < 4; what++) {
+            due("status(" + what + ") behind " + call, x.status(what), untouched.status(what) + (what == status ? 1 : 0));
+        }
+        dueText("what is seen behind " + call, Seen.of(x), Seen.of(untouched));
+    }
+
+    void dueText(String call, String got, String want) {
+        asked++;
+        if (!got.equals(want)) {
+            wrong++;
+            System.out.println(test + call + " is " + got + ", due is " + want);
         }
     }
 
@@ -84,9 +142,11 @@ final class Check {
     /** The table as a text, read entry by entry. */
     static String show(UnimodularTables x) {
         StringBuilder text = new StringBuilder();
-        for (int row = 0; row < x.count(0); row++) {
+        int rows = x.count(0);
+        int columns = x.count(1);
+        for (int row = 0; row < rows; row++) {
             text.append(row == 0 ? "" : "/");
-            for (int column = 0; column < x.count(1); column++) {
+            for (int column = 0; column < columns; column++) {
                 text.append("-0+".charAt(x.entry(row, column) + 1));
             }
         }
@@ -94,11 +154,6 @@ final class Check {
     }
 
     void showsAs(String call, UnimodularTables x, String want) {
-        String got = show(x);
-        asked++;
-        if (!got.equals(want)) {
-            wrong++;
-            System.out.println(call + " left " + got + ", due is " + want);
-        }
+        dueText("the table behind " + call, show(x), want);
     }
 }
