@@ -409,6 +409,39 @@ public final class Promises01To12EdgesTest {
         check.refused("the only column dropped", () -> Check.of("+/-"), x -> x.deal(7, 0, 0), NONE, 3);
     }
 
+    private static void dealtTo(String from, int kind, int a, int b, String to) {
+        UnimodularTables x = Check.of(from);
+        check.due("deal(" + kind + ", " + a + ", " + b + ") of " + from, x.deal(kind, a, b), 1);
+        check.showsAs("deal(" + kind + ", " + a + ", " + b + ") of " + from, x, to);
+    }
+
+    static void promise08DealOfOneRowOrColumn() {
+        dealtTo("+", 0, 0, 0, "-");
+        dealtTo("+", 1, 0, 0, "-");
+        dealtTo("+", 5, 0, 0, "+");
+        dealtTo("+/-", 2, 0, 1, "-/+");
+        dealtTo("+/-", 2, 1, 0, "-/+");
+        dealtTo("+-", 3, 0, 1, "-+");
+        dealtTo("+-", 3, 1, 0, "-+");
+        dealtTo("+/-", 6, 0, 0, "-");
+        dealtTo("+-", 7, 1, 0, "+");
+        dealtTo("+-0+-0", 5, 0, 0, "+/-/0/+/-/0");
+    }
+
+    static void promise08DealOfTheFirstAndLastOfSix() {
+        String six = "+00000/0-0000/00+000/000-00/0000+0/-0000-";
+        dealtTo(six, 0, 5, 0, "+00000/0-0000/00+000/000-00/0000+0/+0000+");
+        dealtTo(six, 1, 0, 0, "-00000/0-0000/00+000/000-00/0000+0/+0000-");
+        dealtTo(six, 2, 0, 5, "-0000-/0-0000/00+000/000-00/0000+0/+00000");
+        dealtTo(six, 3, 5, 0, "00000+/0-0000/00+000/000-00/0000+0/-0000-");
+        dealtTo(six, 6, 5, 0, "+00000/0-0000/00+000/000-00/0000+0");
+        dealtTo(six, 7, 5, 0, "+0000/0-000/00+00/000-0/0000+/-0000");
+        // On the last entry, -1: row 5, column 0 times -1; nothing else of its column but itself, which becomes 1.
+        dealtTo(six, 4, 5, 5, "+00000/0-0000/00+000/000-00/0000+0/+0000+");
+        // On the first of the last row, -1: above it 1 becomes -1, and right above that comes 0 + 1 * 1 * -1.
+        dealtTo(six, 4, 5, 0, "-0000-/0-0000/00+000/000-00/0000+0/+0000+");
+    }
+
     static void promise08DealTellsUpToFortyActs() {
         UnimodularTables x = Check.of("+-/0+");
         for (int act = 1; act <= 45; act++) {

@@ -277,6 +277,21 @@ public final class Promises13To21EdgesTest {
         check.due("network(1) of five nodes", x.network(1), 0);
     }
 
+    static void promise19NetworkFollowsEachChange() {
+        UnimodularTables x = Check.of("++/-+");
+        for (int side = 0; side <= 1; side++) {
+            check.due("none", x.network(side), 0);
+            check.due("no arc", x.arc(side, 0, 0), NONE);
+            x.change(1, 0, 1);
+            check.due("behind change", x.network(side), 1);
+            check.due("an arc", x.arc(side, 0, 0), 0);
+            check.due("a way", x.way(side, 0, 0) != NONE, true);
+            x.undo();
+            check.due("behind undo", x.network(side), 0);
+            check.due("no way", x.way(side, 0, 0), NONE);
+        }
+    }
+
     static void promise19NetworkOfNoSuchSide() {
         for (int side : new int[] {States.LEAST, -2, -1, 2, 3, States.GREATEST}) {
             check.refused("network(" + side + ")", States::busy, x -> x.network(side), NONE);

@@ -62,6 +62,17 @@ public final class Promises22To34EdgesTest {
         }
     }
 
+    static void promise22SignedFollowsEachChange() {
+        UnimodularTables x = Check.of("++0/0++/+00");
+        check.due("a nought", x.signed(2, 2), 0);
+        x.change(2, 2, 1);
+        check.due("the last of a round of six", x.signed(2, 2), -1);
+        x.change(0, 0, 0);
+        check.due("the round is open", x.signed(2, 2), 1);
+        x.undo();
+        check.due("the round is closed again", x.signed(2, 2), -1);
+    }
+
     static void promise22SignedOfSeveralTheFirstAndLowest() {
         // Of four that are not told, each three away, the first ones come first; all get 1, as 3 and 1 are 4.
         UnimodularTables x = Check.of("---/---/---");

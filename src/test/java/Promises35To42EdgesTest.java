@@ -88,6 +88,19 @@ public final class Promises35To42EdgesTest {
         check.refused("where the steps ahead let it", () -> scripted("+-0", "t;r2;c1"), x -> x.run(0, 0), 2);
     }
 
+    static void promise36RunBeginsWithTheTableAsItIs() {
+        UnimodularTables x = scripted("++/-+", "e000");
+        check.due("it can be", x.run(0, 0), NONE);
+        x.change(0, 0, 0);
+        check.due("it is so by now", x.run(0, 0), 0);
+        check.due("total behind none", x.run(0, 1), 1);
+        x.undo();
+        check.due("undone", x.run(0, 0), NONE);
+        x.fault(0);
+        check.due("a question between", x.run(0, 1), 1);
+        check.due("the table is not total", x.total(), 0);
+    }
+
     static void promise36RunThatIsNotThere() {
         for (int far : FAR) {
             check.refused("run(" + far + ", 0)", States::busy, x -> x.run(far, 0), HIDDEN);
