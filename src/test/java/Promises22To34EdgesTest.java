@@ -1,3 +1,4 @@
+import java.util.ArrayList;
 import java.util.List;
 import java.util.function.Supplier;
 
@@ -201,6 +202,34 @@ public final class Promises22To34EdgesTest {
                 }
             }
         }
+    }
+
+    /** All orders of the rows, each with the columns in another order and signs negated here and there. */
+    static void promise25SpecialInEachOrderOfRows() {
+        for (String text : List.of(FIRST, SECOND)) {
+            int[][] t = PlainModel.parse(text);
+            for (int number = 0; number < 120; number++) {
+                int[] rows = order(number);
+                int[] columns = order(number * 77 % 120);
+                StringBuilder moved = new StringBuilder();
+                for (int i = 0; i < 25; i++) {
+                    int sign = ((number >> i / 5) & 1) == ((number * 5 >> i % 5) & 1) ? 1 : -1;
+                    moved.append(i > 0 && i % 5 == 0 ? "/" : "").append("-0+".charAt(1 + sign * t[rows[i / 5]][columns[i % 5]]));
+                }
+                check.due("special of " + moved, Check.of(moved.toString()).special(), text.equals(FIRST) ? 1 : 2);
+            }
+        }
+    }
+
+    private static int[] order(int number) {
+        List<Integer> left = new ArrayList<>(List.of(0, 1, 2, 3, 4));
+        int[] result = new int[5];
+        int rest = number;
+        for (int i = 0; i < 5; i++) {
+            result[i] = left.remove(rest % left.size());
+            rest /= 5 - i;
+        }
+        return result;
     }
 
     // ---- 26: block
