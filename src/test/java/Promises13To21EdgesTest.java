@@ -320,6 +320,16 @@ public final class Promises13To21EdgesTest {
         }
     }
 
+    /** The third arc can hang nowhere: it has to come between the two that meet at node 0, with the set of arc 0 (not 0). */
+    static void promise20ArcOfAPartedNode() {
+        UnimodularTables x = Check.of("++0/+0+/+++");
+        int[][] want = {{3, 1}, {2, 0}, {0, 3}};
+        for (int arc = 0; arc < 3; arc++) {
+            check.due("arc " + arc + " from", x.arc(0, arc, 0), want[arc][0]);
+            check.due("arc " + arc + " to", x.arc(0, arc, 1), want[arc][1]);
+        }
+    }
+
     static void promise20ArcThatIsNotThere() {
         String text = "+0+/0++";
         for (int far : FAR) {
